@@ -79,13 +79,16 @@ public final class CarryTest {
         Due.yes("15: 1 / 7", x.penalty(1, 7));
         Due.is("15: a whole number", x.carried(0, 0), -1);
         Due.is("15: 10 / 7", x.carried(1, 1), -2);
+        Due.yes("15: land", x.land(1, 0, 6, 1, 1));
+        Due.yes("15: 3 / 1", x.penalty(3, 1));
+        Due.is("15: one over", x.carried(1, 0), -3);
         Due.yes("15: 1000 / 1", x.penalty(1000, 1));
         Due.is("15: a thousand times", x.carried(0, 0), -7000);
-        for (int i = 0; i < 198; i++) {
+        for (int i = 0; i < 197; i++) {
             Due.yes("15: land", x.land(0, 0, 1000000000L, i, i));
         }
-        Due.is("15: the most", x.carried(0, 0), -198000000007000L);
+        Due.is("15: the most", x.carried(0, 0), -197000000007000L);
         Due.yes("15: 1000 / 999", x.penalty(1000, 999));
-        Due.is("15: the most of a part", x.carried(0, 0), -198198198206L);
+        Due.is("15: the most of a part", x.carried(0, 0), -197197197205L);
     }
 }

@@ -96,5 +96,8 @@ public final class ChokeTest {
         Due.is("23: nothing left", x.closes(0, 10), 0);
         Due.part(x, 2, 1, 1, 1);
         Due.is("23: great", x.closes(2, 3), 333333334);
+        CatchShares y = Due.made(12, 1200);
+        Due.part(y, 0, 1, 1, 1, 1, 1, 1, 1, 1, 1, 1, 1, 1);
+        Due.is("23: all holders", y.closes(0, 1), 1200);
     }
 }

@@ -10,6 +10,8 @@ public final class OwnerTest {
         caps();
         capping();
         cappingToTheLastPart();
+        cappingByTheLeastHold();
+        cappingByLowerDigits();
         cappingAtTheLimits();
         Due.end();
     }
@@ -175,6 +177,58 @@ public final class OwnerTest {
         Due.yes("21: owns", x.owns(7, 9, 1));
         Due.is("21: the hold", x.hold(0, 9), 100);
         Due.yes("21: half and a hundredth to the 8th of a millionth", x.capped(0));
+    }
+
+    private static void cappingByTheLeastHold() {
+        CatchShares x = new CatchShares();
+        x.stock(1);
+        x.holder(0);
+        x.holder(9);
+        x.weight(0, 0, 99);
+        x.weight(0, 1, 1);
+        Due.yes("21: cap", x.cap(0, 99));
+        Due.no("21: 99 of 99", x.capped(0));
+        for (int i = 0; i < 9; i++) {
+            Due.yes("21: owns", x.owns(i, i + 1, 1));
+        }
+        Due.is("21: the least hold", x.hold(0, 9), 1);
+        Due.yes("21: 99 and the least hold", x.capped(0));
+    }
+
+    private static void cappingByLowerDigits() {
+        CatchShares x = new CatchShares();
+        x.stock(1);
+        // nine holders in whom owner 0 has 0.05 to the 5th, in all 2.8125 of the weights
+        for (int i = 0; i < 9; i++) {
+            x.holder(5);
+            x.weight(0, i, 1000000);
+        }
+        for (int i = 0; i < 5; i++) {
+            Due.yes("21: owns", x.owns(i, i + 1, 5));
+        }
+        x.holder(0);
+        x.holder(9);
+        x.weight(0, 9, 91000);
+        Due.yes("21: cap", x.cap(0, 1));
+        Due.yes("21: weight", x.weight(0, 10, 9281));
+        Due.yes("21: 91002.8125 of 91002.81", x.capped(0));
+        Due.yes("21: weight", x.weight(0, 10, 9282));
+        Due.no("21: 91002.8125 of 91002.82", x.capped(0));
+        CatchShares y = new CatchShares();
+        y.stock(1);
+        for (int i = 0; i < 5; i++) {
+            Due.yes("21: owns", y.owns(i, i + 1, 5));
+        }
+        y.holder(5);
+        y.holder(0);
+        y.holder(9);
+        y.weight(0, 0, 320000);
+        y.weight(0, 1, 40000);
+        y.weight(0, 2, 40001);
+        Due.yes("21: cap", y.cap(0, 10));
+        Due.no("21: 40000.1 of 40000.1", y.capped(0));
+        Due.yes("21: weight", y.weight(0, 2, 40000));
+        Due.yes("21: 40000.1 of 40000", y.capped(0));
     }
 
     private static void cappingAtTheLimits() {

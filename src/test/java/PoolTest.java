@@ -34,6 +34,17 @@ public final class PoolTest {
         Due.is("17: pool 1", x.pooled(0, 1), 40);
         Due.is("16: a new holder", x.holder(1), 4);
         Due.is("16: is in no pool", x.pooled(0, 0), 20);
+        allHolders();
         Due.end();
+    }
+
+    private static void allHolders() {
+        CatchShares x = Due.made(12, 1200);
+        Due.part(x, 0, 1, 1, 1, 1, 1, 1, 1, 1, 1, 1, 1, 1);
+        for (int h = 0; h < 12; h++) {
+            Due.yes("16: into", x.into(h, h < 11 ? 1 : 2));
+        }
+        Due.is("17: all but one", x.pooled(0, 1), 1100);
+        Due.is("17: the last one", x.pooled(0, 2), 100);
     }
 }

@@ -10,6 +10,7 @@ public final class StockTest {
         parting();
         lastGrams();
         carryingIn();
+        carryingInOfAll();
         giving();
         Due.end();
     }
@@ -195,6 +196,14 @@ public final class StockTest {
         x.land(1, 2, 51, 3, 3);
         Due.is("7: part of nothing with carried", x.part(2), 2);
         Due.shares("7: carried on", x, 2, 3, 0, 0, 1);
+    }
+
+    private static void carryingInOfAll() {
+        CatchShares x = Due.made(12, 1200, 12);
+        Due.part(x, 0, 1, 1, 1, 1, 1, 1, 1, 1, 1, 1, 1, 1);
+        Due.yes("7: follows", x.follows(1, 0));
+        Due.part(x, 1, 1, 1, 1, 1, 1, 1, 1, 1, 1, 1, 1, 1);
+        Due.shares("7: carried of all", x, 1, 11, 11, 11, 11, 11, 11, 11, 11, 11, 11, 11, 11);
     }
 
     private static void giving() {
