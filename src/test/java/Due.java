@@ -1,17 +1,34 @@
-/** Counts calls whose answer is not the one that is due, and tells them. */
+/** Counts calls whose answer is not the one that is due, and tells them with the sentence that is tested. */
 final class Due {
     private static int calls = 0;
     private static int wrong = 0;
+    private static String sentence = "";
 
     private Due() {
+    }
+
+    /** One test: the number of the promise (or "Terms") with the words of the document that it holds to. */
+    static void test(String words, Runnable body) {
+        int before = calls;
+        sentence = words;
+        body.run();
+        if (calls == before) {
+            wrong++;
+            System.out.println(sentence + ": nothing was called");
+        }
+        sentence = "";
     }
 
     static void is(String call, long got, long want) {
         calls++;
         if (got != want) {
             wrong++;
-            System.out.println(call + " answered " + got + ", due is " + want);
+            System.out.println(sentence + ": " + call + " answered " + got + ", due is " + want);
         }
+    }
+
+    static void none(String call, long got) {
+        is(call, got, -1);
     }
 
     static void yes(String call, boolean got) {
@@ -41,11 +58,16 @@ final class Due {
         return x;
     }
 
-    /** Gives weights to holders 0 .. and parts the stock. */
-    static void part(CatchShares x, int stock, long... weights) {
+    /** Gives weights to holders 0 .. */
+    static void weigh(CatchShares x, int stock, long... weights) {
         for (int i = 0; i < weights.length; i++) {
             yes("weight", x.weight(stock, i, weights[i]));
         }
+    }
+
+    /** Gives weights to holders 0 .. and parts the stock. */
+    static void part(CatchShares x, int stock, long... weights) {
+        weigh(x, stock, weights);
         yes("part " + stock, x.part(stock) >= 0);
     }
 

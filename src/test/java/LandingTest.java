@@ -1,166 +1,243 @@
-/** Promises 9 to 12: land, left, transfer, swap. */
+/** Promises 9 and 10: land, left; of the terms what is said of landings. */
 public final class LandingTest {
     public static void main(String[] args) {
-        landing();
-        landingsAreFull();
-        leaving();
-        transferring();
-        swapping();
-        swappingAtTheEdges();
+        Due.test("9: False when there is no such stock", LandingTest::landOfNoStock);
+        Due.test("9: False when there is no such holder", LandingTest::landOfNoHolder);
+        Due.test("9: False when it is not parted", LandingTest::landOfNotParted);
+        Due.test("9: False when there are 200 landings", LandingTest::twoHundred);
+        Due.test("9: False when grams is not 1 .. 1000000000", LandingTest::gramsRange);
+        Due.test("9: False when day is not 0 .. 99999", LandingTest::dayRange);
+        Due.test("9: False when told is not 0 .. 99999", LandingTest::toldRange);
+        Due.test("9: False when told is before day", LandingTest::toldBeforeDay);
+        Due.test("9: A landing: true (of one without a share, too)", LandingTest::landWithoutShare);
+        Due.test("10: NONE when there is no such stock", LandingTest::leftOfNoStock);
+        Due.test("10: NONE when there is no such holder", LandingTest::leftOfNoHolder);
+        Due.test("10: LEFT on a day (any)", LandingTest::anyDay);
+        Due.test("10: NONE (which it may be, too)", LandingTest::leftIsNone);
+        Due.test("Terms: landings told up to that day", LandingTest::toldUpToTheDay);
+        Due.test("Terms: LEFT below 0, too", LandingTest::leftBelowNothing);
+        Due.test("Terms: LEFT is its SHARE (as it is now) less", LandingTest::shareAsItIsNow);
+        Due.test("Terms: LEFT of a holder in a stock", LandingTest::leftOfEach);
         Due.end();
     }
 
-    private static void landing() {
-        CatchShares x = Due.made(2, 100, 100);
-        Due.no("9: not parted", x.land(0, 0, 1, 0, 0));
-        Due.part(x, 0, 1, 1);
-        Due.no("9: stock -1", x.land(-1, 0, 1, 0, 0));
-        Due.no("9: stock 2", x.land(2, 0, 1, 0, 0));
-        Due.no("9: other stock not parted", x.land(1, 0, 1, 0, 0));
-        Due.no("9: holder -1", x.land(0, -1, 1, 0, 0));
-        Due.no("9: holder 2", x.land(0, 2, 1, 0, 0));
-        Due.no("9: no grams", x.land(0, 0, 0, 0, 0));
-        Due.no("9: grams below 0", x.land(0, 0, -1, 0, 0));
-        Due.no("9: too many grams", x.land(0, 0, 1000000001L, 0, 0));
-        Due.no("9: far too many grams", x.land(0, 0, Long.MAX_VALUE, 0, 0));
-        Due.no("9: day -1", x.land(0, 0, 1, -1, 0));
-        Due.no("9: day 100000", x.land(0, 0, 1, 100000, 100000));
-        Due.no("9: told -1", x.land(0, 0, 1, -1, -1));
-        Due.no("9: told 100000", x.land(0, 0, 1, 5, 100000));
-        Due.no("9: told before", x.land(0, 0, 1, 5, 4));
-        Due.is("9: nothing landed", x.told(0, 4), 0);
-        Due.is("9: all left", x.left(0, 0, 99999), 50);
-        Due.yes("9: least", x.land(0, 0, 1, 0, 0));
-        Due.yes("9: greatest", x.land(0, 0, 1000000000L, 99999, 99999));
-        Due.yes("9: told the same day", x.land(0, 1, 7, 5, 5));
-        Due.yes("9: told much later", x.land(0, 1, 8, 0, 99999));
-        Due.is("9: landed", x.told(0, 4), 1000000016L);
+    /** One holder with a share of 50. */
+    private static CatchShares fifty() {
+        CatchShares x = Due.made(1, 50);
+        Due.part(x, 0, 1);
+        return x;
     }
 
-    private static void landingsAreFull() {
-        CatchShares x = Due.made(2, 100, 100);
+    private static void landOfNoStock() {
+        Due.no("no stock yet", Due.made(1).land(0, 0, 1, 0, 0));
+        Due.no("all stocks", Due.made(1, 1, 2, 3, 4, 5, 6, 7, 8).land(8, 0, 1, 0, 0));
+        Trial busy = Trial.busy();
+        for (int stock : Trial.noneOf(4)) {
+            busy.no("stock " + stock, y -> y.land(stock, 0, 1, 0, 0));
+        }
+        CatchShares x = Due.made(1, 1, 2, 3, 4, 5, 6, 7, 8);
+        Due.part(x, 7, 1);
+        Due.yes("the last stock", x.land(7, 0, 1, 0, 0));
+        Due.is("left", x.left(7, 0, 0), 7);
+    }
+
+    private static void landOfNoHolder() {
+        Due.no("no holder yet", Due.made(0, 1).land(0, 0, 1, 0, 0));
+        Trial busy = Trial.busy();
+        for (int holder : Trial.noneOf(3)) {
+            busy.no("holder " + holder, y -> y.land(0, holder, 1, 0, 0));
+        }
+        CatchShares x = Due.made(12, 5);
+        Due.yes("weight", x.weight(0, 11, 1));
+        Due.is("part", x.part(0), 1);
+        Due.no("all holders", x.land(0, 12, 1, 0, 0));
+        Due.yes("the last holder", x.land(0, 11, 1, 0, 0));
+        Due.is("left", x.left(0, 11, 0), 4);
+    }
+
+    private static void landOfNotParted() {
+        Trial busy = Trial.busy();
+        busy.no("with weights", y -> y.land(2, 0, 1, 0, 0));
+        busy.no("without weights", y -> y.land(3, 0, 1, 0, 0));
+        CatchShares x = Due.made(1, 0);
+        Due.no("before", x.land(0, 0, 1, 0, 0));
+        Due.part(x, 0, 1);
+        Due.yes("after, though nothing was to part", x.land(0, 0, 1, 0, 0));
+    }
+
+    private static void landAlmostFull(CatchShares x) {
+        x.stock(100);
+        x.stock(100);
+        x.holder(0);
+        x.holder(1);
         Due.part(x, 0, 1, 1);
         Due.part(x, 1, 1, 1);
-        for (int i = 0; i < 200; i++) {
-            Due.yes("9: landing " + i, x.land(i % 2, i / 2 % 2, 1000000000L, i, i));
+        for (int i = 0; i < 199; i++) {
+            Due.yes("landing " + i, x.land(i % 2, i / 2 % 2, 1000000000L, i, i));
         }
-        Due.no("9: landing 200", x.land(0, 0, 1, 0, 0));
-        Due.no("9: landing 200 of the other", x.land(1, 1, 1, 0, 0));
-        Due.is("9: all of 0", x.told(0, 4), 100000000000L);
-        Due.is("9: left", x.left(0, 0, 99999), 50 - 50000000000L);
-        Due.is("9: left on day 3", x.left(1, 1, 3), 50 - 1000000000L);
     }
 
-    private static void leaving() {
-        CatchShares x = Due.made(2, 100, 100);
-        Due.is("10: not parted", x.left(0, 0, 5), 0);
+    private static void twoHundred() {
+        CatchShares x = new CatchShares();
+        landAlmostFull(x);
+        Due.no("refused, not counted", x.land(0, 0, 0, 0, 0));
+        Due.yes("the last one", x.land(1, 1, 1000000000L, 199, 199));
+        Due.no("one more", x.land(0, 0, 1, 0, 0));
+        Due.is("all of 0", x.told(0, 4), 100000000000L);
+        Due.is("all of 1", x.told(1, 4), 100000000000L);
+        Due.is("left in all", x.left(0, 0, 99999), 50 - 50000000000L);
+        Due.is("left before the last", x.left(1, 1, 198), 50 - 49000000000L);
+        Due.is("left with the last", x.left(1, 1, 199), 50 - 50000000000L);
+        Trial full = new Trial(y -> {
+            landAlmostFull(y);
+            y.land(0, 0, 7, 3, 4);
+        });
+        full.no("of the same", y -> y.land(0, 0, 7, 3, 4));
+        full.no("of the other stock", y -> y.land(1, 1, 1, 0, 99999));
+        full.no("out of its range, too", y -> y.land(1, 1, 0, 0, 0));
+    }
+
+    private static void gramsRange() {
+        CatchShares x = fifty();
+        Due.yes("1", x.land(0, 0, 1, 0, 0));
+        Due.is("left", x.left(0, 0, 0), 49);
+        Due.yes("1000000000", x.land(0, 0, 1000000000L, 1, 1));
+        Due.is("left", x.left(0, 0, 1), 49 - 1000000000L);
+        Due.is("landed", x.told(0, 4), 1000000001L);
+        Trial busy = Trial.busy();
+        for (long grams : Trial.outside(1, 1000000000L)) {
+            busy.no("grams " + grams, y -> y.land(0, 0, grams, 1, 1));
+        }
+    }
+
+    private static void dayRange() {
+        CatchShares x = fifty();
+        Due.yes("0", x.land(0, 0, 1, 0, 0));
+        Due.yes("99999", x.land(0, 0, 2, 99999, 99999));
+        Due.is("landed", x.told(0, 4), 3);
+        Trial busy = Trial.busy();
+        for (int day : Trial.outsideInts(0, 99999)) {
+            busy.no("day " + day + ", told then", y -> y.land(0, 0, 1, day, day));
+            busy.no("day " + day + ", told on the last day", y -> y.land(0, 0, 1, day, 99999));
+            busy.no("day " + day + ", told on the first day", y -> y.land(0, 0, 1, day, 0));
+        }
+    }
+
+    private static void toldRange() {
+        CatchShares x = fifty();
+        Due.yes("0", x.land(0, 0, 1, 0, 0));
+        Due.yes("99999", x.land(0, 0, 2, 0, 99999));
+        Due.is("on 0", x.left(0, 0, 0), 49);
+        Due.is("on 99998", x.left(0, 0, 99998), 49);
+        Due.is("on 99999", x.left(0, 0, 99999), 47);
+        Trial busy = Trial.busy();
+        for (int told : Trial.outsideInts(0, 99999)) {
+            busy.no("told " + told, y -> y.land(0, 0, 1, 0, told));
+            busy.no("told " + told + " of the last day", y -> y.land(0, 0, 1, 99999, told));
+        }
+    }
+
+    private static void toldBeforeDay() {
+        CatchShares x = fifty();
+        Due.yes("the same day", x.land(0, 0, 1, 5, 5));
+        Due.yes("a day later", x.land(0, 0, 1, 5, 6));
+        Due.is("left", x.left(0, 0, 6), 48);
+        Trial busy = Trial.busy();
+        busy.no("a day before", y -> y.land(0, 0, 1, 5, 4));
+        busy.no("the first day of the second", y -> y.land(0, 0, 1, 1, 0));
+        busy.no("long before", y -> y.land(0, 0, 1, 99999, 0));
+        busy.no("the last day but one of the last", y -> y.land(0, 0, 1, 99999, 99998));
+    }
+
+    private static void landWithoutShare() {
+        CatchShares x = Due.made(2, 50);
+        Due.part(x, 0, 1, 0);
+        Due.yes("without a share", x.land(0, 1, 3, 0, 0));
+        Due.is("left", x.left(0, 1, 0), -3);
+        Due.yes("more than the share", x.land(0, 0, 51, 0, 0));
+        Due.is("left", x.left(0, 0, 0), -1);
+    }
+
+    private static void leftOfNoStock() {
+        Due.none("no stock yet", Due.made(1).left(0, 0, 0));
+        Due.none("all stocks", Due.made(1, 1, 2, 3, 4, 5, 6, 7, 8).left(8, 0, 0));
+        Due.is("the last stock", Due.made(1, 1, 2, 3, 4, 5, 6, 7, 8).left(7, 0, 0), 0);
+        Trial busy = Trial.busy();
+        for (int stock : Trial.noneOf(4)) {
+            busy.none("stock " + stock, y -> y.left(stock, 0, 0));
+        }
+    }
+
+    private static void leftOfNoHolder() {
+        Due.none("no holder yet", Due.made(0, 1).left(0, 0, 0));
+        Due.none("all holders", Due.made(12, 1).left(0, 12, 0));
+        Due.is("the last holder", Due.made(12, 1).left(0, 11, 0), 0);
+        Trial busy = Trial.busy();
+        for (int holder : Trial.noneOf(3)) {
+            busy.none("holder " + holder, y -> y.left(0, holder, 0));
+        }
+    }
+
+    private static void anyDay() {
+        CatchShares x = fifty();
+        Due.yes("land on the first day", x.land(0, 0, 1, 0, 0));
+        Due.yes("land on the last day", x.land(0, 0, 2, 99999, 99999));
+        Due.is("the least day", x.left(0, 0, Integer.MIN_VALUE), 50);
+        Due.is("-1", x.left(0, 0, -1), 50);
+        Due.is("0", x.left(0, 0, 0), 49);
+        Due.is("100000", x.left(0, 0, 100000), 47);
+        Due.is("the greatest day", x.left(0, 0, Integer.MAX_VALUE), 47);
+        Due.is("not parted", Due.made(1, 50).left(0, 0, 5), 0);
+    }
+
+    private static void leftIsNone() {
+        CatchShares x = fifty();
+        Due.yes("land", x.land(0, 0, 51, 0, 0));
+        Due.is("left", x.left(0, 0, 0), -1);
+    }
+
+    private static void toldUpToTheDay() {
+        CatchShares x = fifty();
+        Due.yes("land on 3, told on 8", x.land(0, 0, 10, 3, 8));
+        Due.yes("land on 4, told on 6", x.land(0, 0, 5, 4, 6));
+        Due.yes("land on 8, told on 8", x.land(0, 0, 1, 8, 8));
+        Due.is("on 5", x.left(0, 0, 5), 50);
+        Due.is("on 6", x.left(0, 0, 6), 45);
+        Due.is("on 7", x.left(0, 0, 7), 45);
+        Due.is("on 8", x.left(0, 0, 8), 34);
+        Due.is("on 9", x.left(0, 0, 9), 34);
+    }
+
+    private static void leftBelowNothing() {
+        CatchShares x = fifty();
+        Due.yes("land", x.land(0, 0, 50, 1, 1));
+        Due.is("nothing", x.left(0, 0, 1), 0);
+        Due.yes("land", x.land(0, 0, 10, 1, 1));
+        Due.is("below", x.left(0, 0, 1), -10);
+        Due.yes("land", x.land(0, 0, 1000000000L, 1, 1));
+        Due.yes("land", x.land(0, 0, 1000000000L, 1, 1));
+        Due.yes("land", x.land(0, 0, 1000000000L, 1, 1));
+        Due.is("farther below than an int", x.left(0, 0, 1), -3000000010L);
+    }
+
+    private static void shareAsItIsNow() {
+        CatchShares x = Due.made(2, 100);
+        Due.part(x, 0, 3, 1);
+        Due.yes("land", x.land(0, 0, 85, 9, 9));
+        Due.is("before", x.left(0, 0, 9), -10);
+        Due.is("transfer", x.transfer(0, 1, 0, 9), 0);
+        Due.is("on an earlier day, too", x.left(0, 0, 5), 84);
+        Due.is("now", x.left(0, 0, 9), -1);
+        Due.is("of the other", x.left(0, 1, 9), 16);
+    }
+
+    private static void leftOfEach() {
+        CatchShares x = Due.made(2, 100, 60);
         Due.part(x, 0, 3, 1);
         Due.part(x, 1, 1, 1);
-        Due.yes("10: land", x.land(0, 0, 10, 3, 8));
-        Due.yes("10: land", x.land(0, 0, 5, 4, 6));
-        Due.yes("10: land", x.land(0, 0, 70, 9, 9));
-        Due.is("10: stock -1", x.left(-1, 0, 0), -1);
-        Due.is("10: stock 2", x.left(2, 0, 0), -1);
-        Due.is("10: holder -1", x.left(0, -1, 0), -1);
-        Due.is("10: holder 2", x.left(0, 2, 0), -1);
-        Due.is("10: on 5", x.left(0, 0, 5), 75);
-        Due.is("10: on 6", x.left(0, 0, 6), 70);
-        Due.is("10: on 7", x.left(0, 0, 7), 70);
-        Due.is("10: on 8", x.left(0, 0, 8), 60);
-        Due.is("10: on 9", x.left(0, 0, 9), -10);
-        Due.is("10: on the least day", x.left(0, 0, Integer.MIN_VALUE), 75);
-        Due.is("10: on the last day", x.left(0, 0, Integer.MAX_VALUE), -10);
-        Due.is("10: other holder", x.left(0, 1, 9), 25);
-        Due.is("10: other stock", x.left(1, 0, 9), 50);
-        Due.is("10: transfer", x.transfer(0, 1, 0, 9), 0);
-        Due.is("10: the share as it is now", x.left(0, 0, 5), 84);
-        Due.is("10: -1 may be left", x.left(0, 0, 9), -1);
-    }
-
-    private static void transferring() {
-        CatchShares x = Due.made(3, 100, 100);
-        Due.is("11: not parted", x.transfer(0, 0, 1, 1), -1);
-        Due.part(x, 0, 5, 3, 2);
-        Due.is("11: stock -1", x.transfer(-1, 0, 1, 1), -1);
-        Due.is("11: stock 2", x.transfer(2, 0, 1, 1), -1);
-        Due.is("11: a is -1", x.transfer(0, -1, 1, 1), -1);
-        Due.is("11: a is 3", x.transfer(0, 3, 1, 1), -1);
-        Due.is("11: b is -1", x.transfer(0, 0, -1, 1), -1);
-        Due.is("11: b is 3", x.transfer(0, 0, 3, 1), -1);
-        Due.is("11: both are one", x.transfer(0, 1, 1, 1), -1);
-        Due.is("11: both are one, too much", x.transfer(0, 1, 1, 1000), -1);
-        Due.is("11: no grams", x.transfer(0, 0, 1, 0), -1);
-        Due.is("11: grams below 0", x.transfer(0, 0, 1, -5), -1);
-        Due.is("11: too many grams", x.transfer(0, 0, 1, 1000000001L), -1);
-        Due.is("11: as many as may be", x.transfer(0, 0, 1, 1000000000L), 1);
-        Due.is("11: less left", x.transfer(0, 0, 1, 51), 1);
-        Due.shares("11: nothing changed", x, 0, 50, 30, 20);
-        Due.is("11: all", x.transfer(0, 0, 1, 50), 0);
-        Due.shares("11", x, 0, 0, 80, 20);
-        // told on the last day, it counts already
-        Due.yes("11: land", x.land(0, 1, 70, 0, 99999));
-        Due.is("11: landed is not left", x.transfer(0, 1, 2, 11), 1);
-        Due.is("11: the rest", x.transfer(0, 1, 2, 10), 0);
-        Due.shares("11: the rest", x, 0, 0, 70, 30);
-        Due.yes("11: land over", x.land(0, 1, 5, 1, 1));
-        Due.is("11: below 0", x.transfer(0, 1, 2, 1), 1);
-        Due.is("11: to one that is over", x.transfer(0, 2, 1, 5), 0);
-        Due.is("11: left of it", x.left(0, 1, 99999), 0);
-        Due.yes("11: sums", x.sums(0));
-    }
-
-    private static void swapping() {
-        CatchShares x = Due.made(2, 100, 100, 100);
-        Due.part(x, 0, 1, 1);
-        Due.is("12: the other not parted", x.swap(0, 1, 1, 1, 0, 1), -1);
-        Due.is("12: the one not parted", x.swap(1, 0, 1, 1, 0, 1), -1);
-        Due.part(x, 1, 1, 1);
-        Due.is("12: stock -1", x.swap(-1, 1, 1, 1, 0, 1), -1);
-        Due.is("12: stock 3", x.swap(3, 1, 1, 1, 0, 1), -1);
-        Due.is("12: other -1", x.swap(0, -1, 1, 1, 0, 1), -1);
-        Due.is("12: other 3", x.swap(0, 3, 1, 1, 0, 1), -1);
-        Due.is("12: both are one", x.swap(0, 0, 1, 1, 0, 1), -1);
-        Due.is("12: holder -1", x.swap(0, 1, 1, 1, -1, 1), -1);
-        Due.is("12: holder 2", x.swap(0, 1, 1, 1, 2, 1), -1);
-        Due.is("12: above 0", x.swap(0, 1, 0, 1, 0, 1), -1);
-        Due.is("12: above 1001", x.swap(0, 1, 1001, 1, 0, 1), -1);
-        Due.is("12: below 0", x.swap(0, 1, 1, 0, 0, 1), -1);
-        Due.is("12: below 1001", x.swap(0, 1, 1, 1001, 0, 1), -1);
-        Due.is("12: no grams", x.swap(0, 1, 1, 1, 0, 0), -1);
-        Due.is("12: too many grams", x.swap(0, 1, 1, 1, 0, 1000000001L), -1);
-        Due.is("12: as many as may be", x.swap(0, 1, 1, 1, 0, 1000000000L), 1);
-        Due.is("12: less left before no whole number", x.swap(0, 1, 1, 2, 0, 51), 1);
-        Due.is("12: no whole number", x.swap(0, 1, 3, 2, 0, 5), 2);
-        Due.is("12: below 1", x.swap(0, 1, 1, 1000, 0, 50), 2);
-        Due.shares("12: nothing changed", x, 0, 50, 50);
-        Due.shares("12: nothing changed", x, 1, 50, 50);
-        Due.is("12: 3 / 2", x.swap(0, 1, 3, 2, 0, 6), 0);
-        Due.shares("12: 3 / 2", x, 0, 44, 50);
-        Due.shares("12: 3 / 2", x, 1, 59, 50);
-        Due.yes("12: land", x.land(0, 0, 40, 0, 99999));
-        Due.is("12: landed is not left", x.swap(0, 1, 1, 1, 0, 5), 1);
-        Due.is("12: all that is left", x.swap(0, 1, 1, 4, 0, 4), 0);
-        Due.shares("12: all that is left", x, 0, 40, 50);
-        Due.shares("12: all that is left", x, 1, 60, 50);
-        Due.is("12: back", x.swap(1, 0, 1000, 1, 1, 50), 0);
-        Due.shares("12: back", x, 0, 40, 50050);
-        Due.shares("12: back", x, 1, 60, 0);
-    }
-
-    private static void swappingAtTheEdges() {
-        CatchShares x = Due.made(2, 1000000000L, 1000000000L);
-        Due.part(x, 0, 1, 0);
-        Due.part(x, 1, 0, 1);
-        Due.is("12: 2000000001 in all", x.swap(0, 1, 1000, 1, 0, 1000001), 2);
-        Due.is("12: far too much", x.swap(0, 1, 1000, 1, 0, 1000000000L), 2);
-        Due.is("12: 1999999999 in all", x.swap(0, 1, 999, 1, 0, 1001001), 0);
-        Due.is("12: all of it", x.told(1, 3), 1999999999L);
-        Due.is("12: one more", x.swap(0, 1, 1, 1, 0, 1), 0);
-        Due.is("12: 2000000000 in all", x.told(1, 3), 2000000000L);
-        Due.is("12: and one too much", x.swap(0, 1, 1, 1, 0, 1), 2);
-        Due.is("12: given", x.given(1, 0), 1000000000L);
-        Due.is("12: left of the other", x.given(0, 0), 1000000000L - 1001001 - 1);
-        Due.yes("12: sums", x.sums(0));
-        Due.yes("12: sums", x.sums(1));
+        Due.yes("land", x.land(0, 0, 7, 1, 1));
+        Due.is("of the one", x.left(0, 0, 1), 68);
+        Due.is("of the other holder", x.left(0, 1, 1), 25);
+        Due.is("of the other stock", x.left(1, 0, 1), 30);
     }
 }

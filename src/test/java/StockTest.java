@@ -1,221 +1,172 @@
-/** Promises 1 to 8: a new object, stock, holder, weight, aside, follows, part, given. */
+/** Promises 1 to 3: a new object, stock, holder. */
 public final class StockTest {
+    private static final long WHOLE = 1000000000000000000L;
+
     public static void main(String[] args) {
-        newObject();
-        stocks();
-        holders();
-        weights();
-        asides();
-        following();
-        parting();
-        lastGrams();
-        carryingIn();
-        carryingInOfAll();
-        giving();
+        Due.test("1: Nothing (no stock)", StockTest::noStockYet);
+        Due.test("1: Nothing (no holder)", StockTest::noHolderYet);
+        Due.test("1: Nothing (no part of another owner)", StockTest::noPartYet);
+        Due.test("1: Nothing (of another object)", StockTest::objectsShareNothing);
+        Due.test("2: A new stock: its number", StockTest::stocksAreNumbered);
+        Due.test("2: NONE when there are 8", StockTest::eightStocks);
+        Due.test("2: NONE when allowed is not 0 .. 1000000000", StockTest::allowedRange);
+        Due.test("3: A new holder: its number", StockTest::holdersAreNumbered);
+        Due.test("3: NONE when there are 12", StockTest::twelveHolders);
+        Due.test("3: NONE when there is no such owner", StockTest::ownerRange);
         Due.end();
     }
 
-    private static void newObject() {
+    private static void noStockYet() {
+        Due.is("NONE", CatchShares.NONE, -1);
         CatchShares x = new CatchShares();
-        Due.is("1: NONE", CatchShares.NONE, -1);
-        Due.is("1: told(0, 0)", x.told(0, 0), -1);
-        Due.is("1: given(0, 0)", x.given(0, 0), -1);
-        Due.is("1: choke(0)", x.choke(0), -1);
-        Due.no("1: into(0, 0)", x.into(0, 0));
-        Due.no("1: capped(0)", x.capped(0));
-        Due.is("1: hold(0, 1)", x.hold(0, 1), 0);
-        CatchShares other = new CatchShares();
-        other.stock(5);
-        Due.is("1: objects share nothing", x.told(0, 0), -1);
-    }
-
-    private static void stocks() {
-        CatchShares x = new CatchShares();
-        Due.is("2: stock(-1)", x.stock(-1), -1);
-        Due.is("2: stock(1000000001)", x.stock(1000000001L), -1);
-        Due.is("2: stock(Long.MIN_VALUE)", x.stock(Long.MIN_VALUE), -1);
-        Due.is("2: stock(0)", x.stock(0), 0);
-        Due.is("2: stock(1000000000)", x.stock(1000000000L), 1);
-        for (int i = 2; i < 8; i++) {
-            Due.is("2: stock(" + i + ")", x.stock(i), i);
+        for (int what = 0; what < 7; what++) {
+            Due.none("told", x.told(0, what));
         }
-        Due.is("2: ninth", x.stock(1), -1);
-        Due.is("2: told(0, 0)", x.told(0, 0), 0);
-        Due.is("2: told(1, 0)", x.told(1, 0), 1000000000L);
-        Due.is("2: told(7, 0)", x.told(7, 0), 7);
-        Due.is("2: told(8, 0)", x.told(8, 0), -1);
+        Due.none("part", x.part(0));
+        Due.none("pooled", x.pooled(0, 0));
+        Due.none("closes", x.closes(0, 1));
+        Due.none("discard", x.discard(0));
+        Due.no("sums", x.sums(0));
+        Due.no("cap", x.cap(0, 1));
+        Due.no("aside", x.aside(0, 0));
+        Due.no("seen", x.seen(0, 0, 0));
+        Due.is("the first", x.stock(0), 0);
     }
 
-    private static void holders() {
+    private static void noHolderYet() {
+        CatchShares x = Due.made(0, 100, 100);
+        Due.none("given", x.given(0, 0));
+        Due.none("left", x.left(0, 0, 0));
+        Due.none("over", x.over(0, 0));
+        Due.none("carried", x.carried(0, 0));
+        Due.none("choke", x.choke(0));
+        Due.none("transfer", x.transfer(0, 0, 1, 1));
+        Due.none("swap", x.swap(0, 1, 1, 1, 0, 1));
+        Due.no("weight", x.weight(0, 0, 1));
+        Due.no("land", x.land(0, 0, 1, 0, 0));
+        Due.no("into", x.into(0, 0));
+        Due.is("the first", x.holder(0), 0);
+    }
+
+    private static void noPartYet() {
         CatchShares x = new CatchShares();
-        Due.is("3: holder(-1)", x.holder(-1), -1);
-        Due.is("3: holder(10)", x.holder(10), -1);
+        for (int owner = 0; owner < 10; owner++) {
+            for (int other = 0; other < 10; other++) {
+                Due.is("hold(" + owner + ", " + other + ")", x.hold(owner, other), owner == other ? WHOLE : 0);
+            }
+            Due.no("capped", x.capped(owner));
+        }
+    }
+
+    private static void objectsShareNothing() {
+        CatchShares x = new CatchShares();
+        CatchShares other = Due.made(1, 5);
+        Due.yes("owns", other.owns(0, 1, 50));
+        Due.none("no stock of the other", x.told(0, 0));
+        Due.no("no holder of the other", x.into(0, 0));
+        Due.is("no part of the other", x.hold(0, 1), 0);
+        Due.is("a stock of its own", x.stock(6), 0);
+        Due.is("the other's still", other.told(0, 0), 5);
+    }
+
+    private static void stocksAreNumbered() {
+        CatchShares x = new CatchShares();
+        Due.is("first", x.stock(40), 0);
+        Due.none("refused", x.stock(-1));
+        Due.is("no number is left out", x.stock(50), 1);
+        Due.is("first told", x.told(0, 0), 40);
+        Due.is("second told", x.told(1, 0), 50);
+        Due.none("third not yet", x.told(2, 0));
+    }
+
+    private static void eightStocks() {
+        CatchShares x = new CatchShares();
+        for (int i = 0; i < 8; i++) {
+            Due.none("too large, not counted", x.stock(1000000001L));
+            Due.is("stock", x.stock(10 + i), i);
+        }
+        Due.none("ninth", x.stock(5));
+        Due.none("tenth", x.stock(5));
+        for (int i = 0; i < 8; i++) {
+            Due.is("told", x.told(i, 0), 10 + i);
+        }
+        Due.none("no ninth", x.told(8, 0));
+        Trial full = new Trial(y -> {
+            for (int i = 0; i < 8; i++) {
+                y.stock(10 + i);
+            }
+            y.holder(0);
+        });
+        full.none("ninth of 0", y -> y.stock(0));
+        full.none("ninth", y -> y.stock(1000000000L));
+        full.none("ninth, too large", y -> y.stock(1000000001L));
+    }
+
+    private static void allowedRange() {
+        CatchShares x = new CatchShares();
+        Due.is("0", x.stock(0), 0);
+        Due.is("1000000000", x.stock(1000000000L), 1);
+        Due.is("told 0", x.told(0, 0), 0);
+        Due.is("told 1000000000", x.told(1, 0), 1000000000L);
+        Trial empty = new Trial(y -> { });
+        Trial busy = Trial.busy();
+        for (long allowed : Trial.outside(0, 1000000000L)) {
+            empty.none("stock(" + allowed + ")", y -> y.stock(allowed));
+            busy.none("stock(" + allowed + ")", y -> y.stock(allowed));
+        }
+    }
+
+    private static void holdersAreNumbered() {
+        CatchShares x = new CatchShares();
+        Due.is("first", x.holder(3), 0);
+        Due.none("refused", x.holder(10));
+        Due.is("no number is left out, of the same owner", x.holder(3), 1);
+        Due.is("stock", x.stock(1), 0);
+        Due.is("second", x.given(0, 1), 0);
+        Due.none("third not yet", x.given(0, 2));
+    }
+
+    private static void twelveHolders() {
+        CatchShares x = Due.made(0, 78);
         for (int i = 0; i < 12; i++) {
-            Due.is("3: holder " + i, x.holder(9 - i % 10), i);
+            Due.none("of no owner, not counted", x.holder(-1));
+            Due.is("holder", x.holder(9 - i % 10), i);
         }
-        Due.is("3: thirteenth", x.holder(0), -1);
-        x.stock(1);
-        Due.is("3: given(0, 11)", x.given(0, 11), 0);
-        Due.is("3: given(0, 12)", x.given(0, 12), -1);
+        Due.none("thirteenth", x.holder(0));
+        Due.is("twelfth", x.given(0, 11), 0);
+        Due.none("no thirteenth", x.given(0, 12));
+        Due.part(x, 0, 1, 2, 3, 4, 5, 6, 7, 8, 9, 10, 11, 12);
+        Due.shares("all have their own", x, 0, 1, 2, 3, 4, 5, 6, 7, 8, 9, 10, 11, 12);
+        Trial full = new Trial(y -> {
+            for (int i = 0; i < 12; i++) {
+                y.holder(i % 10);
+            }
+            y.stock(1);
+            y.cap(0, 0);
+            y.weight(0, 11, 1);
+        });
+        full.none("thirteenth of 0", y -> y.holder(0));
+        full.none("thirteenth of 9", y -> y.holder(9));
+        full.none("thirteenth of nobody", y -> y.holder(10));
     }
 
-    private static void weights() {
-        CatchShares x = Due.made(2, 100, 100);
-        Due.no("4: stock -1", x.weight(-1, 0, 1));
-        Due.no("4: stock 2", x.weight(2, 0, 1));
-        Due.no("4: holder -1", x.weight(0, -1, 1));
-        Due.no("4: holder 2", x.weight(0, 2, 1));
-        Due.no("4: -1", x.weight(0, 0, -1));
-        Due.no("4: 1000001", x.weight(0, 0, 1000001));
-        Due.yes("4: 1000000", x.weight(0, 0, 1000000));
-        Due.yes("4: 0", x.weight(0, 1, 0));
-        Due.yes("4: again", x.weight(0, 0, 1));
-        Due.yes("4: other holder", x.weight(0, 1, 3));
-        Due.no("4: refused changes nothing", x.weight(0, 1, 1000001));
-        Due.is("4: part", x.part(0), 2);
-        Due.shares("4", x, 0, 25, 75);
-        Due.no("4: parted", x.weight(0, 0, 5));
-        Due.yes("4: other stock is not", x.weight(1, 0, 5));
-    }
-
-    private static void asides() {
-        CatchShares x = Due.made(1, 100, 0);
-        Due.no("5: stock -1", x.aside(-1, 0));
-        Due.no("5: stock 2", x.aside(2, 0));
-        Due.no("5: -1", x.aside(0, -1));
-        Due.no("5: 101", x.aside(0, 101));
-        Due.yes("5: 100", x.aside(0, 100));
-        Due.is("5: told", x.told(0, 1), 100);
-        Due.no("5: of nothing", x.aside(1, 1));
-        Due.yes("5: nothing of nothing", x.aside(1, 0));
-        Due.yes("5: set anew, not added", x.aside(0, 30));
-        Due.no("5: refused", x.aside(0, 101));
-        Due.is("5: told anew", x.told(0, 1), 30);
-        Due.part(x, 0, 1);
-        Due.shares("5", x, 0, 70);
-        Due.no("5: parted", x.aside(0, 10));
-        Due.is("5: told still", x.told(0, 1), 30);
-    }
-
-    private static void following() {
-        CatchShares x = Due.made(1, 100, 100, 100, 100);
-        Due.no("6: not parted", x.follows(1, 0));
-        Due.part(x, 0, 1);
-        Due.no("6: stock -1", x.follows(-1, 0));
-        Due.no("6: stock 4", x.follows(4, 0));
-        Due.no("6: old -1", x.follows(1, -1));
-        Due.no("6: old 4", x.follows(1, 4));
-        Due.no("6: itself", x.follows(1, 1));
-        Due.no("6: itself, parted", x.follows(0, 0));
-        Due.is("6: nothing yet", x.told(1, 6), -1);
-        Due.yes("6: 1 follows 0", x.follows(1, 0));
-        Due.no("6: already", x.follows(1, 0));
-        Due.is("6: told", x.told(1, 6), 0);
-        Due.yes("6: another follows the same", x.follows(2, 0));
-        Due.part(x, 1, 1);
-        Due.no("6: parted", x.follows(1, 0));
-        Due.yes("6: a chain", x.follows(3, 1));
-        Due.is("6: told of the chain", x.told(3, 6), 1);
-        Due.no("6: follows another already", x.follows(3, 0));
-        Due.is("6: told of the chain still", x.told(3, 6), 1);
-        CatchShares y = Due.made(1, 100, 100);
-        Due.part(y, 0, 1);
-        Due.part(y, 1, 1);
-        Due.no("6: parted without following", y.follows(1, 0));
-    }
-
-    private static void parting() {
-        CatchShares x = Due.made(3, 100, 0, 100);
-        Due.is("7: stock -1", x.part(-1), -1);
-        Due.is("7: stock 3", x.part(3), -1);
-        Due.is("7: no weights", x.part(0), -1);
-        Due.is("7: not parted by that", x.told(0, 2), 0);
-        x.weight(0, 0, 1);
-        x.weight(0, 2, 1);
-        Due.is("7: two above 0", x.part(0), 2);
-        Due.is("7: parted", x.told(0, 2), 1);
-        Due.is("7: twice", x.part(0), -1);
-        Due.shares("7", x, 0, 50, 0, 50);
-        x.weight(1, 0, 1);
-        Due.is("7: nothing to part", x.part(1), 0);
-        Due.is("7: parted all the same", x.told(1, 2), 1);
-        x.aside(2, 99);
-        x.weight(2, 0, 1);
-        x.weight(2, 1, 1);
-        x.weight(2, 2, 1);
-        Due.is("7: one gram", x.part(2), 1);
-        Due.shares("7: one gram", x, 2, 1, 0, 0);
-        Due.is("7: a later holder", x.holder(5), 3);
-        Due.is("7: has nothing", x.given(0, 3), 0);
-    }
-
-    private static void lastGrams() {
-        CatchShares x = Due.made(4, 10, 1000000000L, 11, 10);
-        // 10 by 1, 2, 4, 0 of 7: rests 3, 6, 5
-        Due.part(x, 0, 1, 2, 4, 0);
-        Due.shares("7: greatest rest", x, 0, 1, 3, 6, 0);
-        // 11 by 3, 3, 3, 1 of 10: 3.3, 3.3, 3.3, 1.1
-        Due.part(x, 2, 3, 3, 3, 1);
-        Due.shares("7: same rest", x, 2, 4, 3, 3, 1);
-        // 10 by 1, 1, 3, 2 of 7: rests 3, 3, 2, 6, two grams over
-        Due.part(x, 3, 1, 1, 3, 2);
-        Due.shares("7: rest, then number", x, 3, 2, 1, 4, 3);
-        Due.part(x, 1, 1000000, 999999, 999998, 7);
-        Due.shares("7: great weights", x, 1, 333332889, 333332556, 333332222, 2333);
-        Due.is("7: nothing lost", x.told(1, 3), 1000000000L);
-        // weights as large as they may be, of all holders
-        CatchShares y = Due.made(12, 1000000000L);
-        Due.part(y, 0, 1000000, 1000000, 1000000, 1000000, 1000000, 1000000,
-            1000000, 1000000, 1000000, 1000000, 1000000, 999999);
-        Due.is("7: first of all", y.given(0, 0), 83333341);
-        Due.is("7: last of all", y.given(0, 11), 83333257);
-        Due.is("7: all of all", y.told(0, 3), 1000000000L);
-    }
-
-    private static void carryingIn() {
-        CatchShares x = Due.made(4, 400, 100, 0);
-        Due.part(x, 0, 1, 1, 1, 1);
-        x.land(0, 0, 95, 1, 1);
-        x.land(0, 1, 130, 1, 1);
-        x.land(0, 2, 100, 1, 1);
-        x.follows(1, 0);
-        // told after the following, before the parting: it counts
-        x.land(0, 3, 40, 2, 2);
-        x.weight(1, 0, 1);
-        x.weight(1, 1, 1);
-        x.weight(1, 2, 2);
-        Due.is("7: part with carried", x.part(1), 3);
-        // 25 + 5, 25 - 30, 50 + 0, 0 + 10
-        Due.shares("7: carried", x, 1, 30, 0, 50, 10);
-        // a landing after the parting changes nothing in what was carried
-        x.land(0, 3, 100, 3, 3);
-        Due.shares("7: carried then", x, 1, 30, 0, 50, 10);
-        x.follows(2, 1);
-        x.weight(2, 0, 1);
-        x.penalty(2, 1);
-        x.land(1, 2, 51, 3, 3);
-        Due.is("7: part of nothing with carried", x.part(2), 2);
-        Due.shares("7: carried on", x, 2, 3, 0, 0, 1);
-    }
-
-    private static void carryingInOfAll() {
-        CatchShares x = Due.made(12, 1200, 12);
-        Due.part(x, 0, 1, 1, 1, 1, 1, 1, 1, 1, 1, 1, 1, 1);
-        Due.yes("7: follows", x.follows(1, 0));
-        Due.part(x, 1, 1, 1, 1, 1, 1, 1, 1, 1, 1, 1, 1, 1);
-        Due.shares("7: carried of all", x, 1, 11, 11, 11, 11, 11, 11, 11, 11, 11, 11, 11, 11);
-    }
-
-    private static void giving() {
-        CatchShares x = Due.made(2, 9);
-        Due.is("8: stock -1", x.given(-1, 0), -1);
-        Due.is("8: stock 1", x.given(1, 0), -1);
-        Due.is("8: holder -1", x.given(0, -1), -1);
-        Due.is("8: holder 2", x.given(0, 2), -1);
-        Due.is("8: before", x.given(0, 0), 0);
-        Due.part(x, 0, 2, 1);
-        Due.shares("8", x, 0, 6, 3);
-        x.land(0, 0, 4, 1, 1);
-        Due.is("8: landings do not change it", x.given(0, 0), 6);
+    private static void ownerRange() {
+        CatchShares x = Due.made(0, 1);
+        Due.yes("cap", x.cap(0, 0));
+        Due.is("of 0", x.holder(0), 0);
+        Due.is("of 9", x.holder(9), 1);
+        Due.yes("weight", x.weight(0, 0, 1));
+        Due.yes("it is 0's", x.capped(0));
+        Due.no("not 9's", x.capped(9));
+        Due.yes("weight", x.weight(0, 0, 0));
+        Due.yes("weight", x.weight(0, 1, 1));
+        Due.no("not 0's", x.capped(0));
+        Due.yes("it is 9's", x.capped(9));
+        Trial empty = new Trial(y -> { });
+        Trial busy = Trial.busy();
+        for (int owner : Trial.noneOf(10)) {
+            empty.none("holder(" + owner + ")", y -> y.holder(owner));
+            busy.none("holder(" + owner + ")", y -> y.holder(owner));
+        }
     }
 }
