@@ -19,13 +19,8 @@ public final class CapTest {
     }
 
     private static void capOfNoStock() {
-        Due.no("no stock yet", Due.made(1).cap(0, 50));
-        Due.no("all stocks", Due.made(1, 1, 2, 3, 4, 5, 6, 7, 8).cap(8, 50));
+        Trial.noSuchStock(0, (y, stock) -> Trial.bit(y.cap(stock, 50)));
         Due.yes("the last stock", Due.made(1, 1, 2, 3, 4, 5, 6, 7, 8).cap(7, 50));
-        Trial busy = Trial.busy();
-        for (int stock : Trial.noneOf(4)) {
-            busy.no("stock " + stock, y -> y.cap(stock, 50));
-        }
     }
 
     private static void capRange() {

@@ -18,6 +18,7 @@ public final class CarryTest {
         Due.test("15: of all stocks from now on", CarryTest::ofAllStocks);
         Due.test("Terms: PENALTY is 1 / 1 at first", CarryTest::penaltyAtFirst);
         Due.test("Terms: OVER * PENALTY, rounded up in size", CarryTest::roundedUpInSize);
+        Due.test("Terms: OVER * PENALTY (of the least)", CarryTest::leastOver);
         Due.test("Terms: OVER * PENALTY (of the most)", CarryTest::mostOver);
         Due.end();
     }
@@ -33,23 +34,13 @@ public final class CarryTest {
     }
 
     private static void overOfNoStock() {
-        Due.none("no stock yet", Due.made(1).over(0, 0));
-        Due.none("all stocks", Due.made(1, 1, 2, 3, 4, 5, 6, 7, 8).over(8, 0));
+        Trial.noSuchStock(-1, (y, stock) -> y.over(stock, 1));
         Due.is("the last stock", Due.made(1, 1, 2, 3, 4, 5, 6, 7, 8).over(7, 0), 0);
-        Trial busy = Trial.busy();
-        for (int stock : Trial.noneOf(4)) {
-            busy.none("stock " + stock, y -> y.over(stock, 1));
-        }
     }
 
     private static void overOfNoHolder() {
-        Due.none("no holder yet", Due.made(0, 1).over(0, 0));
-        Due.none("all holders", Due.made(12, 1).over(0, 12));
+        Trial.noSuchHolder(-1, (y, holder) -> y.over(0, holder));
         Due.is("the last holder", Due.made(12, 1).over(0, 11), 0);
-        Trial busy = Trial.busy();
-        for (int holder : Trial.noneOf(3)) {
-            busy.none("holder " + holder, y -> y.over(0, holder));
-        }
     }
 
     private static void overOrNothing() {
@@ -81,23 +72,13 @@ public final class CarryTest {
     }
 
     private static void carriedOfNoStock() {
-        Due.none("no stock yet", Due.made(1).carried(0, 0));
-        Due.none("all stocks", Due.made(1, 1, 2, 3, 4, 5, 6, 7, 8).carried(8, 0));
+        Trial.noSuchStock(-1, (y, stock) -> y.carried(stock, 0));
         Due.is("the last stock", Due.made(1, 1, 2, 3, 4, 5, 6, 7, 8).carried(7, 0), 0);
-        Trial busy = Trial.busy();
-        for (int stock : Trial.noneOf(4)) {
-            busy.none("stock " + stock, y -> y.carried(stock, 0));
-        }
     }
 
     private static void carriedOfNoHolder() {
-        Due.none("no holder yet", Due.made(0, 1).carried(0, 0));
-        Due.none("all holders", Due.made(12, 1).carried(0, 12));
+        Trial.noSuchHolder(-1, (y, holder) -> y.carried(0, holder));
         Due.is("the last holder", Due.made(12, 1).carried(0, 11), 0);
-        Trial busy = Trial.busy();
-        for (int holder : Trial.noneOf(3)) {
-            busy.none("holder " + holder, y -> y.carried(0, holder));
-        }
     }
 
     private static void carriedIsNone() {
@@ -212,6 +193,16 @@ public final class CarryTest {
         Due.is("2.3", x.carried(0, 0), -3);
         Due.yes("1 / 4", x.penalty(1, 4));
         Due.is("1.75", x.carried(0, 0), -2);
+    }
+
+    private static void leastOver() {
+        CatchShares x = landed(101);
+        Due.yes("3 / 1", x.penalty(3, 1));
+        Due.is("three times one", x.carried(0, 0), -3);
+        Due.yes("1 / 1000", x.penalty(1, 1000));
+        Due.is("a thousandth of one", x.carried(0, 0), -1);
+        Due.yes("1000 / 1", x.penalty(1000, 1));
+        Due.is("a thousand times one", x.carried(0, 0), -1000);
     }
 
     private static void mostOver() {

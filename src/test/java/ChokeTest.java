@@ -9,6 +9,7 @@ public final class ChokeTest {
         Due.test("22: the least LEFT over SHARE (by a hair)", ChokeTest::byAHair);
         Due.test("22: the least LEFT over SHARE (LEFT below 0, too)", ChokeTest::belowNothing);
         Due.test("22: the least LEFT over SHARE (far below 0)", ChokeTest::farOver);
+        Due.test("22: the least LEFT over SHARE (where a product would wrap around)", ChokeTest::wrapAround);
         Due.test("22: the least LEFT over SHARE (of the largest shares)", ChokeTest::largestShares);
         Due.test("22: LEFT (without a day: all landings)", ChokeTest::chokeOnTheLastDay);
         Due.test("22: of all 8 stocks and 12 holders", ChokeTest::allStocks);
@@ -24,11 +25,7 @@ public final class ChokeTest {
     }
 
     private static void chokeOfNoHolder() {
-        Due.none("no holder yet", Due.made(0, 1).choke(0));
-        Trial busy = Trial.busy();
-        for (int holder : Trial.noneOf(3)) {
-            busy.none("holder " + holder, y -> y.choke(holder));
-        }
+        Trial.noSuchHolder(-1, (y, holder) -> y.choke(holder));
     }
 
     private static void chokeOfNoStock() {
@@ -142,6 +139,22 @@ public final class ChokeTest {
         Due.is("60 times over", x.choke(0), 2);
     }
 
+    private static void wrapAround() {
+        CatchShares x = Due.made(1, 1000000000L, 1000000000L);
+        Due.part(x, 0, 1);
+        Due.part(x, 1, 1);
+        for (int i = 0; i < 100; i++) {
+            Due.yes("land", x.land(1, 0, 1000000000L, 1, 1));
+            Due.is("one is over", x.choke(0), 1);
+        }
+        for (int i = 0; i < 99; i++) {
+            Due.yes("land", x.land(0, 0, 1000000000L, 1, 1));
+            Due.is("one is farther over", x.choke(0), 1);
+        }
+        Due.yes("land", x.land(0, 0, 1000000000L, 1, 1));
+        Due.is("the same", x.choke(0), 0);
+    }
+
     private static void largestShares() {
         CatchShares x = Due.made(1, 1000000000L, 1000000000L, 1000000L, 1000000L);
         for (int stock = 0; stock < 4; stock++) {
@@ -178,14 +191,9 @@ public final class ChokeTest {
     }
 
     private static void closesOfNoStock() {
-        Due.none("no stock yet", Due.made(1).closes(0, 1));
-        Trial busy = Trial.busy();
-        for (int stock : Trial.noneOf(4)) {
-            busy.none("stock " + stock, y -> y.closes(stock, 1));
-        }
+        Trial.noSuchStock(-1, (y, stock) -> y.closes(stock, 1));
         CatchShares x = Due.made(1, 1, 2, 3, 4, 5, 6, 7, 8);
         Due.part(x, 7, 1);
-        Due.none("all stocks", x.closes(8, 1));
         Due.is("the last stock", x.closes(7, 1), 8);
     }
 

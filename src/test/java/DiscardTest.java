@@ -31,13 +31,8 @@ public final class DiscardTest {
     }
 
     private static void seenOfNoStock() {
-        Due.no("no stock yet", Due.made(1).seen(0, 1, 1));
-        Due.no("all stocks", Due.made(1, 1, 2, 3, 4, 5, 6, 7, 8).seen(8, 1, 1));
+        Trial.noSuchStock(0, (y, stock) -> Trial.bit(y.seen(stock, 1, 1)));
         Due.yes("the last stock", Due.made(1, 1, 2, 3, 4, 5, 6, 7, 8).seen(7, 1, 1));
-        Trial busy = Trial.busy();
-        for (int stock : Trial.noneOf(4)) {
-            busy.no("stock " + stock, y -> y.seen(stock, 1, 1));
-        }
     }
 
     private static void keptRange() {
@@ -121,12 +116,7 @@ public final class DiscardTest {
     }
 
     private static void discardOfNoStock() {
-        Due.none("no stock yet", Due.made(1).discard(0));
-        Due.none("all stocks", Due.made(1, 1, 2, 3, 4, 5, 6, 7, 8).discard(8));
-        Trial busy = Trial.busy();
-        for (int stock : Trial.noneOf(4)) {
-            busy.none("stock " + stock, y -> y.discard(stock));
-        }
+        Trial.noSuchStock(-1, (y, stock) -> y.discard(stock));
         CatchShares x = Due.made(1, 1, 2, 3, 4, 5, 6, 7, 8);
         Due.yes("seen", x.seen(7, 1, 1));
         Due.is("the last stock", x.discard(7), 0);

@@ -29,12 +29,7 @@ public final class LandingTest {
     }
 
     private static void landOfNoStock() {
-        Due.no("no stock yet", Due.made(1).land(0, 0, 1, 0, 0));
-        Due.no("all stocks", Due.made(1, 1, 2, 3, 4, 5, 6, 7, 8).land(8, 0, 1, 0, 0));
-        Trial busy = Trial.busy();
-        for (int stock : Trial.noneOf(4)) {
-            busy.no("stock " + stock, y -> y.land(stock, 0, 1, 0, 0));
-        }
+        Trial.noSuchStock(0, (y, stock) -> Trial.bit(y.land(stock, 0, 1, 0, 0)));
         CatchShares x = Due.made(1, 1, 2, 3, 4, 5, 6, 7, 8);
         Due.part(x, 7, 1);
         Due.yes("the last stock", x.land(7, 0, 1, 0, 0));
@@ -42,15 +37,10 @@ public final class LandingTest {
     }
 
     private static void landOfNoHolder() {
-        Due.no("no holder yet", Due.made(0, 1).land(0, 0, 1, 0, 0));
-        Trial busy = Trial.busy();
-        for (int holder : Trial.noneOf(3)) {
-            busy.no("holder " + holder, y -> y.land(0, holder, 1, 0, 0));
-        }
+        Trial.noSuchHolder(0, (y, holder) -> Trial.bit(y.land(0, holder, 1, 0, 0)));
         CatchShares x = Due.made(12, 5);
         Due.yes("weight", x.weight(0, 11, 1));
         Due.is("part", x.part(0), 1);
-        Due.no("all holders", x.land(0, 12, 1, 0, 0));
         Due.yes("the last holder", x.land(0, 11, 1, 0, 0));
         Due.is("left", x.left(0, 11, 0), 4);
     }
@@ -159,23 +149,13 @@ public final class LandingTest {
     }
 
     private static void leftOfNoStock() {
-        Due.none("no stock yet", Due.made(1).left(0, 0, 0));
-        Due.none("all stocks", Due.made(1, 1, 2, 3, 4, 5, 6, 7, 8).left(8, 0, 0));
+        Trial.noSuchStock(-1, (y, stock) -> y.left(stock, 0, 0));
         Due.is("the last stock", Due.made(1, 1, 2, 3, 4, 5, 6, 7, 8).left(7, 0, 0), 0);
-        Trial busy = Trial.busy();
-        for (int stock : Trial.noneOf(4)) {
-            busy.none("stock " + stock, y -> y.left(stock, 0, 0));
-        }
     }
 
     private static void leftOfNoHolder() {
-        Due.none("no holder yet", Due.made(0, 1).left(0, 0, 0));
-        Due.none("all holders", Due.made(12, 1).left(0, 12, 0));
+        Trial.noSuchHolder(-1, (y, holder) -> y.left(0, holder, 0));
         Due.is("the last holder", Due.made(12, 1).left(0, 11, 0), 0);
-        Trial busy = Trial.busy();
-        for (int holder : Trial.noneOf(3)) {
-            busy.none("holder " + holder, y -> y.left(0, holder, 0));
-        }
     }
 
     private static void anyDay() {

@@ -63,23 +63,13 @@ public final class PartTest {
     }
 
     private static void weightOfNoStock() {
-        Due.no("no stock yet", Due.made(1).weight(0, 0, 1));
-        Due.no("all stocks", Due.made(1, 1, 2, 3, 4, 5, 6, 7, 8).weight(8, 0, 1));
+        Trial.noSuchStock(0, (y, stock) -> Trial.bit(y.weight(stock, 0, 3)));
         Due.yes("the last stock", Due.made(1, 1, 2, 3, 4, 5, 6, 7, 8).weight(7, 0, 1));
-        Trial busy = Trial.busy();
-        for (int stock : Trial.noneOf(4)) {
-            busy.no("stock " + stock, y -> y.weight(stock, 0, 1));
-        }
     }
 
     private static void weightOfNoHolder() {
-        Due.no("no holder yet", Due.made(0, 1).weight(0, 0, 1));
-        Due.no("all holders", Due.made(12, 1).weight(0, 12, 1));
+        Trial.noSuchHolder(0, (y, holder) -> Trial.bit(y.weight(2, holder, 3)));
         Due.yes("the last holder", Due.made(12, 1).weight(0, 11, 1));
-        Trial busy = Trial.busy();
-        for (int holder : Trial.noneOf(3)) {
-            busy.no("holder " + holder, y -> y.weight(2, holder, 1));
-        }
     }
 
     private static void weightOfParted() {
@@ -91,6 +81,11 @@ public final class PartTest {
         busy.no("the same weight", y -> y.weight(0, 0, 5));
         busy.no("no weight", y -> y.weight(1, 2, 0));
         busy.no("no weight that may be", y -> y.weight(0, 0, -1));
+        CatchShares z = Due.made(2, 100);
+        Due.yes("cap", z.cap(0, 50));
+        Due.part(z, 0, 1, 1);
+        Due.no("more", z.weight(0, 0, 2));
+        Due.no("capped by the weight that was", z.capped(0));
     }
 
     private static void weightRange() {
@@ -128,13 +123,8 @@ public final class PartTest {
     }
 
     private static void asideOfNoStock() {
-        Due.no("no stock yet", Due.made(1).aside(0, 0));
-        Due.no("all stocks", Due.made(1, 1, 2, 3, 4, 5, 6, 7, 8).aside(8, 0));
+        Trial.noSuchStock(0, (y, stock) -> Trial.bit(y.aside(stock, 1)));
         Due.yes("the last stock", Due.made(1, 1, 2, 3, 4, 5, 6, 7, 8).aside(7, 8));
-        Trial busy = Trial.busy();
-        for (int stock : Trial.noneOf(4)) {
-            busy.no("stock " + stock, y -> y.aside(stock, 1));
-        }
     }
 
     private static void asideOfParted() {
@@ -187,17 +177,11 @@ public final class PartTest {
     }
 
     private static void followingNone() {
-        Due.no("no stock yet", Due.made(1).follows(0, 0));
-        Trial busy = Trial.busy();
-        for (int stock : Trial.noneOf(4)) {
-            busy.no("stock " + stock, y -> y.follows(stock, 0));
-            busy.no("old " + stock, y -> y.follows(3, stock));
-            busy.no("both " + stock, y -> y.follows(stock, stock));
-        }
+        Trial.noSuchStock(0, (y, stock) -> Trial.bit(y.follows(stock, 0)));
+        Trial.noSuchStock(0, (y, old) -> Trial.bit(y.follows(3, old)));
+        Trial.noSuchStock(0, (y, both) -> Trial.bit(y.follows(both, both)));
         CatchShares x = Due.made(1, 1, 2, 3, 4, 5, 6, 7, 8);
         Due.part(x, 7, 1);
-        Due.no("all stocks", x.follows(8, 7));
-        Due.no("old of all stocks", x.follows(6, 8));
         Due.yes("the last ones", x.follows(6, 7));
         Due.is("told", x.told(6, 6), 7);
     }
@@ -263,13 +247,8 @@ public final class PartTest {
     }
 
     private static void partOfNone() {
-        Due.none("no stock yet", Due.made(1).part(0));
-        Trial busy = Trial.busy();
-        for (int stock : Trial.noneOf(4)) {
-            busy.none("stock " + stock, y -> y.part(stock));
-        }
+        Trial.noSuchStock(-1, (y, stock) -> y.part(stock));
         CatchShares x = Due.made(1, 1, 2, 3, 4, 5, 6, 7, 8);
-        Due.none("all stocks", x.part(8));
         Due.part(x, 7, 1);
         Due.shares("the last stock", x, 7, 8);
     }
@@ -457,21 +436,13 @@ public final class PartTest {
     }
 
     private static void givenOfNoStock() {
-        Due.none("no stock yet", Due.made(1).given(0, 0));
-        Due.none("all stocks", Due.made(1, 1, 2, 3, 4, 5, 6, 7, 8).given(8, 0));
-        Trial busy = Trial.busy();
-        for (int stock : Trial.noneOf(4)) {
-            busy.none("stock " + stock, y -> y.given(stock, 0));
-        }
+        Trial.noSuchStock(-1, (y, stock) -> y.given(stock, 0));
+        Due.is("the last stock", Due.made(1, 1, 2, 3, 4, 5, 6, 7, 8).given(7, 0), 0);
     }
 
     private static void givenOfNoHolder() {
-        Due.none("no holder yet", Due.made(0, 1).given(0, 0));
-        Due.none("all holders", Due.made(12, 1).given(0, 12));
-        Trial busy = Trial.busy();
-        for (int holder : Trial.noneOf(3)) {
-            busy.none("holder " + holder, y -> y.given(0, holder));
-        }
+        Trial.noSuchHolder(-1, (y, holder) -> y.given(0, holder));
+        Due.is("the last holder", Due.made(12, 1).given(0, 11), 0);
     }
 
     private static void givenBefore() {

@@ -22,14 +22,8 @@ public final class PoolTest {
     }
 
     private static void intoOfNoHolder() {
-        Due.no("no holder yet", new CatchShares().into(0, 0));
-        Due.no("no holder yet, no pool", new CatchShares().into(0, -1));
-        Trial busy = Trial.busy();
-        for (int holder : Trial.noneOf(3)) {
-            busy.no("holder " + holder, y -> y.into(holder, 0));
-            busy.no("holder " + holder + " out", y -> y.into(holder, -1));
-        }
-        Due.no("all holders", Due.made(12, 1).into(12, 0));
+        Trial.noSuchHolder(0, (y, holder) -> Trial.bit(y.into(holder, 0)));
+        Trial.noSuchHolder(0, (y, holder) -> Trial.bit(y.into(holder, -1)));
         Due.yes("the last holder", Due.made(12, 1).into(11, 0));
     }
 
@@ -68,13 +62,8 @@ public final class PoolTest {
     }
 
     private static void pooledOfNoStock() {
-        Due.none("no stock yet", Due.made(1).pooled(0, 0));
-        Due.none("all stocks", Due.made(1, 1, 2, 3, 4, 5, 6, 7, 8).pooled(8, 0));
+        Trial.noSuchStock(-1, (y, stock) -> y.pooled(stock, 1));
         Due.is("the last stock", Due.made(1, 1, 2, 3, 4, 5, 6, 7, 8).pooled(7, 0), 0);
-        Trial busy = Trial.busy();
-        for (int stock : Trial.noneOf(4)) {
-            busy.none("stock " + stock, y -> y.pooled(stock, 1));
-        }
     }
 
     private static void pooledOfNoPool() {

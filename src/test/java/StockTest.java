@@ -61,12 +61,29 @@ public final class StockTest {
     private static void objectsShareNothing() {
         CatchShares x = new CatchShares();
         CatchShares other = Due.made(1, 5);
-        Due.yes("owns", other.owns(0, 1, 50));
         Due.none("no stock of the other", x.told(0, 0));
         Due.no("no holder of the other", x.into(0, 0));
-        Due.is("no part of the other", x.hold(0, 1), 0);
         Due.is("a stock of its own", x.stock(6), 0);
-        Due.is("the other's still", other.told(0, 0), 5);
+        Due.is("a holder of its own", x.holder(0), 0);
+        Due.part(x, 0, 1);
+        Due.part(other, 0, 1);
+        for (int i = 0; i < 200; i++) {
+            Due.yes("land", other.land(0, 0, 1, 0, 0));
+        }
+        Due.yes("owns", other.owns(0, 1, 50));
+        Due.yes("penalty", other.penalty(3, 1));
+        Due.yes("cap", other.cap(0, 7));
+        Due.yes("into", other.into(0, 2));
+        Due.yes("seen", other.seen(0, 1, 1));
+        Due.yes("land in its own", x.land(0, 0, 8, 0, 0));
+        Due.is("no part of the other", x.hold(0, 1), 0);
+        Due.is("no penalty of the other", x.carried(0, 0), -2);
+        Due.is("no cap of the other", x.told(0, 5), 100);
+        Due.is("no pool of the other", x.pooled(0, 2), 0);
+        Due.none("nothing seen by the other", x.discard(0));
+        Due.is("its own landings", x.told(0, 4), 8);
+        Due.is("the other's landings", other.told(0, 4), 200);
+        Due.is("the other's stock", other.told(0, 0), 5);
     }
 
     private static void stocksAreNumbered() {
@@ -144,6 +161,7 @@ public final class StockTest {
             y.stock(1);
             y.cap(0, 0);
             y.weight(0, 11, 1);
+            y.into(11, 2);
         });
         full.none("thirteenth of 0", y -> y.holder(0));
         full.none("thirteenth of 9", y -> y.holder(9));

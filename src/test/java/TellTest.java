@@ -26,17 +26,11 @@ public final class TellTest {
     }
 
     private static void toldOfNoStock() {
-        Due.none("no stock yet", Due.made(1).told(0, 0));
-        Trial busy = Trial.busy();
-        for (int stock : Trial.noneOf(4)) {
-            for (int what = 0; what < 7; what++) {
-                int it = what;
-                busy.none("stock " + stock + ", " + what, y -> y.told(stock, it));
-            }
+        for (int what = 0; what < 7; what++) {
+            int it = what;
+            Trial.noSuchStock(-1, (y, stock) -> y.told(stock, it));
         }
-        CatchShares x = Due.made(1, 1, 2, 3, 4, 5, 6, 7, 8);
-        Due.none("all stocks", x.told(8, 0));
-        Due.is("the last stock", x.told(7, 0), 8);
+        Due.is("the last stock", Due.made(1, 1, 2, 3, 4, 5, 6, 7, 8).told(7, 0), 8);
     }
 
     private static void toldOfOthers() {
@@ -125,14 +119,9 @@ public final class TellTest {
     }
 
     private static void sumsOfNoStock() {
-        Due.no("no stock yet", Due.made(1).sums(0));
-        Trial busy = Trial.busy();
-        for (int stock : Trial.noneOf(4)) {
-            busy.no("stock " + stock, y -> y.sums(stock));
-        }
+        Trial.noSuchStock(0, (y, stock) -> Trial.bit(y.sums(stock)));
         CatchShares x = Due.made(1, 1, 2, 3, 4, 5, 6, 7, 8);
         Due.part(x, 7, 1);
-        Due.no("all stocks", x.sums(8));
         Due.yes("the last stock", x.sums(7));
     }
 

@@ -58,25 +58,18 @@ public final class TradeTest {
     }
 
     private static void transferOfNoStock() {
-        Due.none("no stock yet", Due.made(2).transfer(0, 0, 1, 1));
-        Due.none("all stocks", Due.made(2, 1, 2, 3, 4, 5, 6, 7, 8).transfer(8, 0, 1, 1));
-        Trial busy = Trial.busy();
-        for (int stock : Trial.noneOf(4)) {
-            busy.none("stock " + stock, y -> y.transfer(stock, 0, 1, 1));
-        }
+        Trial.noSuchStock(-1, (y, stock) -> y.transfer(stock, 0, 1, 1));
+        CatchShares x = Due.made(2, 1, 2, 3, 4, 5, 6, 7, 8);
+        Due.part(x, 7, 1, 1);
+        Due.is("the last stock", x.transfer(7, 0, 1, 1), 0);
     }
 
     private static void transferOfNoHolders() {
-        Trial busy = Trial.busy();
-        for (int holder : Trial.noneOf(3)) {
-            busy.none("a is " + holder, y -> y.transfer(0, holder, 1, 1));
-            busy.none("b is " + holder, y -> y.transfer(0, 0, holder, 1));
-            busy.none("both are " + holder, y -> y.transfer(0, holder, holder, 1));
-        }
+        Trial.noSuchHolder(-1, (y, a) -> y.transfer(0, a, 1, 1));
+        Trial.noSuchHolder(-1, (y, b) -> y.transfer(0, 0, b, 1));
+        Trial.noSuchHolder(-1, (y, both) -> y.transfer(0, both, both, 1));
         CatchShares x = Due.made(12, 12);
         Due.part(x, 0, 1, 1, 1, 1, 1, 1, 1, 1, 1, 1, 1, 1);
-        Due.none("all holders, a", x.transfer(0, 12, 0, 1));
-        Due.none("all holders, b", x.transfer(0, 0, 12, 1));
         Due.is("to the last", x.transfer(0, 0, 11, 1), 0);
         Due.is("from the last", x.transfer(0, 11, 1, 2), 0);
         Due.is("it went", x.given(0, 1), 3);
@@ -146,34 +139,23 @@ public final class TradeTest {
     }
 
     private static void swapOfNoStocks() {
-        Due.none("no stock yet", Due.made(1).swap(0, 1, 1, 1, 0, 1));
-        Trial busy = Trial.busy();
-        for (int stock : Trial.noneOf(4)) {
-            busy.none("stock " + stock, y -> y.swap(stock, 1, 1, 1, 0, 1));
-            busy.none("other stock " + stock, y -> y.swap(0, stock, 1, 1, 0, 1));
-            busy.none("both " + stock, y -> y.swap(stock, stock, 1, 1, 0, 1));
-        }
+        Trial.noSuchStock(-1, (y, stock) -> y.swap(stock, 1, 1, 1, 0, 1));
+        Trial.noSuchStock(-1, (y, other) -> y.swap(0, other, 1, 1, 0, 1));
+        Trial.noSuchStock(-1, (y, both) -> y.swap(both, both, 1, 1, 0, 1));
         CatchShares x = Due.made(1, 1, 2, 3, 4, 5, 6, 7, 8);
         Due.part(x, 6, 1);
         Due.part(x, 7, 1);
-        Due.none("all stocks", x.swap(8, 7, 1, 1, 0, 1));
-        Due.none("other of all stocks", x.swap(7, 8, 1, 1, 0, 1));
         Due.is("the last ones", x.swap(7, 6, 1, 1, 0, 8), 0);
         Due.shares("given", x, 7, 0);
         Due.shares("got", x, 6, 15);
     }
 
     private static void swapOfNoHolder() {
-        Due.none("no holder yet", Due.made(0, 1, 1).swap(0, 1, 1, 1, 0, 1));
-        Trial busy = Trial.busy();
-        for (int holder : Trial.noneOf(3)) {
-            busy.none("holder " + holder, y -> y.swap(0, 1, 1, 1, holder, 1));
-        }
+        Trial.noSuchHolder(-1, (y, holder) -> y.swap(0, 1, 1, 1, holder, 1));
         CatchShares x = Due.made(12, 12, 12);
         for (int s = 0; s < 2; s++) {
             Due.part(x, s, 1, 1, 1, 1, 1, 1, 1, 1, 1, 1, 1, 1);
         }
-        Due.none("all holders", x.swap(0, 1, 1, 1, 12, 1));
         Due.is("the last holder", x.swap(0, 1, 1, 1, 11, 1), 0);
         Due.is("got", x.given(1, 11), 2);
     }

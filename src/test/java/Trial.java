@@ -14,13 +14,18 @@ import java.util.function.ToLongFunction;
 final class Trial {
     private static final int MOST_PROBED = 280;
 
+    /** A call with the number of a stock or a holder. */
+    interface Numbered {
+        long on(CatchShares x, int number);
+    }
+
     private interface Probe {
         void look(CatchShares x, LongConsumer answers);
     }
 
     private static final List<Probe> PROBES = List.of(Trial::lookAtStocks, Trial::lookAtShares, Trial::lookAtDays,
-        Trial::lookAtCarried, Trial::lookAtOwners, Trial::fillAndPart, Trial::poolAll, Trial::landAndSee,
-        Trial::fillLandings);
+        Trial::lookAtCarried, Trial::lookAtOwners, Trial::lookAtWeights, Trial::fillAndPart, Trial::poolAll,
+        Trial::landAndSee, Trial::fillLandings);
 
     private final Consumer<CatchShares> state;
     private final List<long[]> untouched = new ArrayList<>();
@@ -64,6 +69,48 @@ final class Trial {
         x.seen(1, 3, 999999);
     }
 
+    /** An object with all stocks (0 and 1 parted, 2 with weights) and all holders. */
+    private static void makeFull(CatchShares x) {
+        for (int s = 0; s < 8; s++) {
+            x.stock(120);
+        }
+        for (int h = 0; h < 12; h++) {
+            x.holder(h % 10);
+        }
+        Due.part(x, 0, 1, 1, 1, 1, 1, 1, 1, 1, 1, 1, 1, 1);
+        Due.part(x, 1, 1, 1, 1, 1, 1, 1, 1, 1, 1, 1, 1, 1);
+        Due.weigh(x, 2, 1, 1, 1, 1, 1, 1, 1, 1, 1, 1, 1, 1);
+    }
+
+    /** The call answers this for stocks that there are not: none are there yet, or some, or all. */
+    static void noSuchStock(long refused, Numbered call) {
+        Trial none = new Trial(x -> {
+            x.holder(0);
+            x.holder(1);
+        });
+        noSuchNumber(none, 0, refused, call);
+        noSuchNumber(busy(), 4, refused, call);
+        noSuchNumber(new Trial(Trial::makeFull), 8, refused, call);
+    }
+
+    /** The same for holders; the first two stocks are parted where there are holders, the third is not. */
+    static void noSuchHolder(long refused, Numbered call) {
+        Trial none = new Trial(x -> {
+            x.stock(100);
+            x.stock(100);
+            x.stock(100);
+        });
+        noSuchNumber(none, 0, refused, call);
+        noSuchNumber(busy(), 3, refused, call);
+        noSuchNumber(new Trial(Trial::makeFull), 12, refused, call);
+    }
+
+    private static void noSuchNumber(Trial state, int count, long refused, Numbered call) {
+        for (int number : noneOf(count)) {
+            state.answers("number " + number + " of " + count, x -> call.on(x, number), refused);
+        }
+    }
+
     /** Numbers that are none of 0 .. count - 1; a type too narrow would take some of them for 0. */
     static int[] noneOf(int count) {
         return new int[] {-1, count, Integer.MIN_VALUE, Integer.MAX_VALUE, 256, 65536};
@@ -81,7 +128,7 @@ final class Trial {
     }
 
     void no(String call, Predicate<CatchShares> refused) {
-        answers(call, x -> refused.test(x) ? 1 : 0, 0);
+        answers(call, x -> bit(refused.test(x)), 0);
     }
 
     void none(String call, ToLongFunction<CatchShares> refused) {
@@ -113,7 +160,7 @@ final class Trial {
         return all.stream().mapToLong(Long::longValue).toArray();
     }
 
-    private static long bit(boolean answer) {
+    static long bit(boolean answer) {
         return answer ? 1 : 0;
     }
 
@@ -173,6 +220,22 @@ final class Trial {
         }
         for (int owner = 0; owner < 10; owner++) {
             answers.accept(bit(x.capped(owner)));
+        }
+    }
+
+    /** Weights of a stock that is parted are seen by caps alone. */
+    private static void lookAtWeights(CatchShares x, LongConsumer answers) {
+        for (int s = 0; s < 8; s++) {
+            answers.accept(bit(x.cap(s, 100)));
+        }
+        for (int s = 0; s < 8; s++) {
+            for (int cap = 5; cap < 70; cap += 10) {
+                answers.accept(bit(x.cap(s, cap)));
+                for (int owner = 0; owner < 3; owner++) {
+                    answers.accept(bit(x.capped(owner)));
+                }
+            }
+            answers.accept(bit(x.cap(s, 100)));
         }
     }
 
