@@ -253,7 +253,8 @@ public final class CatchShares {
         }
         owners.findHolds(owner);
         for (int i = 0; i < stockCount; i++) {
-            if (isAboveCap(stocks[i])) {
+            Stock s = findStock(i);
+            if (s != null && isAboveCap(s)) {
                 return true;
             }
         }
@@ -266,9 +267,9 @@ public final class CatchShares {
         }
         Stock choking = null;
         for (int i = 0; i < stockCount; i++) {
-            Stock s = stocks[i];
+            Stock s = findStock(i);
             // A share above 0 says that the stock is parted, too.
-            if (s.shares[holder] > 0 && (choking == null || isScarcer(s, choking, holder))) {
+            if (s != null && s.shares[holder] > 0 && (choking == null || isScarcer(s, choking, holder))) {
                 choking = s;
             }
         }
@@ -284,7 +285,7 @@ public final class CatchShares {
         for (int h = 0; h < holderCount; h++) {
             sum += Math.max(0, leftInAll(s, h));
         }
-        return (sum + rate - 1) / rate;
+        return dividedUp(sum, rate);
     }
 
     public boolean seen(int stock, long kept, long thrown) {
@@ -346,6 +347,11 @@ public final class CatchShares {
         return isWithin(above, 1, MOST_OF_FRACTION) && isWithin(below, 1, MOST_OF_FRACTION);
     }
 
+    /** Rounded up; x is at least 0. */
+    private static long dividedUp(long x, long by) {
+        return by < 1 ? 0 : (x + by - 1) / by;
+    }
+
     private static boolean isOwner(int owner) {
         return owner >= 0 && owner < OWNERS;
     }
@@ -378,7 +384,7 @@ public final class CatchShares {
     private long carriedOf(Stock s, int holder) {
         long over = overOf(s, holder);
         if (over > 0) {
-            return -((over * penaltyAbove + penaltyBelow - 1) / penaltyBelow);
+            return -dividedUp(over * penaltyAbove, penaltyBelow);
         }
         return Math.min(leftInAll(s, holder), s.shares[holder] / 10);
     }
@@ -391,7 +397,7 @@ public final class CatchShares {
 
     private long holdOf(int owner, int other) {
         owners.findHolds(owner);
-        return owners.holds[other];
+        return owners.found(other);
     }
 
     /**
@@ -402,7 +408,7 @@ public final class CatchShares {
         long upper = 0;
         long lower = 0;
         for (int h = 0; h < holderCount; h++) {
-            long held = owners.holds[ownerOf[h]];
+            long held = owners.found(ownerOf[h]);
             upper += s.weights[h] * (held / HALF_DIGITS);
             lower += s.weights[h] * (held % HALF_DIGITS);
         }
@@ -413,12 +419,15 @@ public final class CatchShares {
     }
 
     /**
-     * Whether LEFT over SHARE is less in one stock than in the other, both shares being above 0. Whole parts and
-     * rests are compared apart: what is over times a share does not fit a long.
+     * Whether LEFT over SHARE is less in one stock than in the other; without a share above 0 in both it is not.
+     * Whole parts and rests are compared apart: what is over times a share does not fit a long.
      */
     private boolean isScarcer(Stock s, Stock than, int holder) {
         long share = s.shares[holder];
         long otherShare = than.shares[holder];
+        if (share < 1 || otherShare < 1) {
+            return false;
+        }
         long left = leftInAll(s, holder);
         long otherLeft = leftInAll(than, holder);
         long times = Math.floorDiv(left, share);
@@ -501,17 +510,21 @@ public final class CatchShares {
             return true;
         }
 
-        /** How many holders come before this one when the last grams are given out; total is above 0. */
+        /** How many holders come before this one when the last grams are given out. */
         private int rankByRest(int holder, long whole, long total) {
-            long rest = whole * weights[holder] % total;
+            long rest = restOf(holder, whole, total);
             int rank = 0;
             for (int h = 0; h < weights.length; h++) {
-                long other = whole * weights[h] % total;
+                long other = restOf(h, whole, total);
                 if (other > rest || (other == rest && h < holder)) {
                     rank++;
                 }
             }
             return rank;
+        }
+
+        private long restOf(int holder, long whole, long total) {
+            return total < 1 ? 0 : whole * weights[holder] % total;
         }
 
         void carryIn(int holder, long carry) {
@@ -581,8 +594,7 @@ public final class CatchShares {
         private final int[] parts;
         private final long[] ways;
         private final long[] longerWays;
-        /** The holds of the owner for whom they were found last. */
-        final long[] holds;
+        private final long[] holds;
 
         Owners() {
             parts = new int[OWNERS * OWNERS];
@@ -618,6 +630,11 @@ public final class CatchShares {
                     holds[i] += ways[i];
                 }
             }
+        }
+
+        /** His hold of another one, of the owner for whom holds were found last. */
+        long found(int other) {
+            return isOwner(other) ? holds[other] : 0;
         }
 
         private void lengthenWays() {
